@@ -1,8 +1,6 @@
-import java.util.Random;
-
 /** All promises: runs of 512 calls with drawn arguments, each answer compared with that of the model. */
-public final class RandomRunsTest {
-    private static final Checks CHECKS = new Checks("RandomRunsTest");
+public final class ModelRunsTest {
+    private static final Checks CHECKS = new Checks("ModelRunsTest");
     private static final int RUNS = 600;
     private static final int CALLS = 512;
     private static final int[] FAR = {-1, Integer.MIN_VALUE, Integer.MAX_VALUE, 1 << 30, -4};
@@ -12,7 +10,22 @@ public final class RandomRunsTest {
         "results", "points", "isDropped", "pointsOfGames", "mean", "opponent", "hasWhite",
         "results", "points", "isDropped", "pointsOfGames", "mean", "opponent", "hasWhite", "offered"};
 
-    private final Random random;
+    /** Numbers that look drawn, but are the same in each run of the test. */
+    private static final class Draws {
+        private long state;
+
+        Draws(long seed) {
+            state = seed;
+        }
+
+        int below(int end) {
+            state = state * 6364136223846793005L + 1442695040888963407L;
+            long mixed = (state ^ (state >>> 33)) * 0xff51afd7ed558ccdL;
+            return (int) Math.floorMod(mixed >>> 20, (long) end);
+        }
+    }
+
+    private final Draws random;
     private final ClubAcademy academy = new ClubAcademy();
     private final Model model = new Model();
     private final String run;
@@ -27,26 +40,26 @@ public final class RandomRunsTest {
     private boolean goesOn;
     private String lastMoves = "";
 
-    private RandomRunsTest(int number) {
-        random = new Random(number);
+    private ModelRunsTest(int number) {
+        random = new Draws(number);
         run = "run " + number;
-        players = 1 + random.nextInt(9);
-        unlikeMoves = 1 + random.nextInt(4);
-        length = random.nextInt(14);
-        result = random.nextInt(4);
-        askings = 1 + random.nextInt(9);
+        players = 1 + random.below(9);
+        unlikeMoves = 1 + random.below(4);
+        length = random.below(14);
+        result = random.below(4);
+        askings = 1 + random.below(9);
     }
 
     public static void main(String[] args) {
         for (int number = 0; number < RUNS; number++) {
-            new RandomRunsTest(number).calls();
+            new ModelRunsTest(number).calls();
         }
         CHECKS.finish();
     }
 
     private void calls() {
         for (int i = 0; i < CALLS; i++) {
-            if (random.nextInt(10) < askings && i > 10) {
+            if (random.below(10) < askings && i > 10) {
                 question();
             } else {
                 deed();
@@ -55,31 +68,31 @@ public final class RandomRunsTest {
     }
 
     private int near(int end) {
-        int value = random.nextInt(end + 1);
-        return random.nextInt(40) == 0 ? FAR[random.nextInt(FAR.length)] : value == end && random.nextInt(6) != 0 ? 0 : value;
+        int value = random.below(end + 1);
+        return random.below(40) == 0 ? FAR[random.below(FAR.length)] : value == end && random.below(6) != 0 ? 0 : value;
     }
 
     private int drawnMove() {
-        return random.nextInt(50) == 0 ? near(4) : random.nextInt(unlikeMoves);
+        return random.below(50) == 0 ? near(4) : random.below(unlikeMoves);
     }
 
     private void deed() {
-        if (entered < players && random.nextInt(3) == 0) {
+        if (entered < players && random.below(3) == 0) {
             entered += call("enter", 0, 0, 0).length() == 1 ? 1 : 0;
-        } else if (made > 0 && random.nextInt(8) == 0) {
+        } else if (made > 0 && random.below(8) == 0) {
             int player = near(Math.max(1, entered));
             int puzzle = near(made);
-            boolean well = random.nextInt(3) != 0 && puzzle >= 0 && puzzle < made;
+            boolean well = random.below(3) != 0 && puzzle >= 0 && puzzle < made;
             int move = well ? academy.best(academy.puzzle(puzzle)) : near(4);
             call("solve", player, puzzle, move);
-        } else if (!goesOn || random.nextInt(40) == 0) {
+        } else if (!goesOn || random.below(40) == 0) {
             String answer = call("begin", near(Math.max(1, entered)), near(Math.max(1, entered)), 0);
             if (!answer.contains("Exception")) {
                 goesOn = true;
                 lastMoves = "";
             }
-        } else if (random.nextInt(length + 1) == 0) {
-            int given = result < 3 && random.nextInt(4) != 0 ? result : near(3);
+        } else if (random.below(length + 1) == 0) {
+            int given = result < 3 && random.below(4) != 0 ? result : near(3);
             String answer = call("end", given, 0, 0);
             if (!answer.contains("Exception")) {
                 goesOn = false;
@@ -94,7 +107,7 @@ public final class RandomRunsTest {
     }
 
     private void question() {
-        String name = QUESTIONS[random.nextInt(QUESTIONS.length)];
+        String name = QUESTIONS[random.below(QUESTIONS.length)];
         switch (name) {
             case "after": call(name, near(1000), near(4), 0); break;
             case "worth": case "best": call(name, near(1000), 0, 0); break;
@@ -106,16 +119,16 @@ public final class RandomRunsTest {
     }
 
     private void line(String name) {
-        int moves = random.nextInt(30) == 0 ? near(8) : 1 + random.nextInt(6);
+        int moves = random.below(30) == 0 ? near(8) : 1 + random.below(6);
         int line = 0;
         for (int i = 5; i >= 0; i--) {
-            boolean last = random.nextBoolean() && i < lastMoves.length();
-            line = 4 * line + (last ? lastMoves.charAt(i) - '0' : random.nextInt(unlikeMoves));
+            boolean last = random.below(2) == 0 && i < lastMoves.length();
+            line = 4 * line + (last ? lastMoves.charAt(i) - '0' : random.below(unlikeMoves));
         }
-        if (moves >= 1 && moves <= 6 && random.nextInt(40) != 0) {
+        if (moves >= 1 && moves <= 6 && random.below(40) != 0) {
             line %= 1 << 2 * moves;
         }
-        call(name, random.nextInt(60) == 0 ? FAR[random.nextInt(FAR.length)] : line, moves, 0);
+        call(name, random.below(60) == 0 ? FAR[random.below(FAR.length)] : line, moves, 0);
     }
 
     private String call(String name, int a, int b, int c) {
