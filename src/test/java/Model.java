@@ -72,7 +72,7 @@ final class Model {
     }
 
     private static String text(boolean answer) {
-        return answer ? "1" : "0";
+        return Boolean.toString(answer);
     }
 
     private static String text(int answer) {
@@ -239,6 +239,11 @@ final class Model {
         rating += solved ? 32 - (rating > 1000 ? (rating - 1000) / 50 : 0) : -16;
         row[position % 5] = Math.min(3000, Math.max(100, rating));
         return text(solved);
+    }
+
+    /** The move that solves a puzzle, which must be there. */
+    int solution(int puzzle) {
+        return best(puzzles.get(puzzle)[0]);
     }
 
     private int offered(int player) {

@@ -2,7 +2,6 @@
 public final class ModelRunsTest {
     private static final Checks CHECKS = new Checks("ModelRunsTest");
     private static final int RUNS = 600;
-    private static final int CALLS = 512;
     private static final int[] FAR = {-1, Integer.MIN_VALUE, Integer.MAX_VALUE, 1 << 30, -4};
 
     private static final String[] QUESTIONS = {
@@ -26,9 +25,9 @@ public final class ModelRunsTest {
     }
 
     private final Draws random;
-    private final ClubAcademy academy = new ClubAcademy();
     private final Model model = new Model();
-    private final String run;
+    private final String title;
+    private final Run run;
     /** How a run differs from others: how many players, how many unlike moves, how long games, how it asks. */
     private final int players;
     private final int unlikeMoves;
@@ -42,7 +41,8 @@ public final class ModelRunsTest {
 
     private ModelRunsTest(int number) {
         random = new Draws(number);
-        run = "run " + number;
+        title = "run " + number;
+        run = new Run(CHECKS, title);
         players = 1 + random.below(9);
         unlikeMoves = 1 + random.below(4);
         length = random.below(14);
@@ -58,8 +58,8 @@ public final class ModelRunsTest {
     }
 
     private void calls() {
-        for (int i = 0; i < CALLS; i++) {
-            if (random.below(10) < askings && i > 10) {
+        while (run.calls() < Run.MOST_CALLS) {
+            if (random.below(10) < askings && run.calls() > 10) {
                 question();
             } else {
                 deed();
@@ -83,7 +83,7 @@ public final class ModelRunsTest {
             int player = near(Math.max(1, entered));
             int puzzle = near(made);
             boolean well = random.below(3) != 0 && puzzle >= 0 && puzzle < made;
-            int move = well ? academy.best(academy.puzzle(puzzle)) : near(4);
+            int move = well ? model.solution(puzzle) : near(4);
             call("solve", player, puzzle, move);
         } else if (!goesOn || random.below(40) == 0) {
             String answer = call("begin", near(Math.max(1, entered)), near(Math.max(1, entered)), 0);
@@ -132,47 +132,9 @@ public final class ModelRunsTest {
     }
 
     private String call(String name, int a, int b, int c) {
-        String got;
-        try {
-            got = answer(name, a, b, c);
-        } catch (RuntimeException e) {
-            got = e.getClass().getSimpleName();
-        }
+        String got = run.call(name, a, b, c);
         String want = model.call(name, a, b, c);
-        CHECKS.due(run + ": " + name + "(" + a + ", " + b + ", " + c + ")", got, want);
+        CHECKS.due(title + ": " + name + "(" + a + ", " + b + ", " + c + ")", got, want);
         return got;
-    }
-
-    private static String text(boolean answer) {
-        return answer ? "1" : "0";
-    }
-
-    private String answer(String name, int a, int b, int c) {
-        switch (name) {
-            case "after": return "" + academy.after(a, b);
-            case "worth": return "" + academy.worth(a);
-            case "best": return "" + academy.best(a);
-            case "enter": return "" + academy.enter();
-            case "begin": return "" + academy.begin(a, b);
-            case "move": return text(academy.move(a));
-            case "end": return "" + academy.end(a);
-            case "position": return "" + academy.position();
-            case "games": return "" + academy.games();
-            case "score": return "" + academy.score(a);
-            case "puzzles": return "" + academy.puzzles();
-            case "puzzle": return "" + academy.puzzle(a);
-            case "source": return "" + academy.source(a);
-            case "solve": return text(academy.solve(a, b, c));
-            case "offered": return "" + academy.offered(a);
-            case "rating": return "" + academy.rating(a, b);
-            case "results": return "" + academy.results(a, b);
-            case "points": return "" + academy.points(a, b);
-            case "isDropped": return text(academy.isDropped(a, b));
-            case "pointsOfGames": return "" + academy.pointsOfGames(a, b);
-            case "mean": return "" + academy.mean(a, b);
-            case "opponent": return "" + academy.opponent(a);
-            case "hasWhite": return text(academy.hasWhite(a));
-            default: throw new IllegalArgumentException(name);
-        }
     }
 }

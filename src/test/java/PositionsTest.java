@@ -1,4 +1,4 @@
-/** Promises 1 to 4: a new object, after, worth, best. */
+/** Promises 1 to 4: a new object, after, worth, best. Nothing is promised behind 512 calls, so new objects are asked. */
 public final class PositionsTest {
     private static final Checks CHECKS = new Checks("PositionsTest");
 
@@ -30,9 +30,10 @@ public final class PositionsTest {
             CHECKS.due("after(" + row[0] + ", " + row[1] + ")", academy.after(row[0], row[1]), row[2]);
         }
         for (int position = 0; position < 1000; position++) {
+            ClubAcademy other = new ClubAcademy();
             for (int move = 0; move < 4; move++) {
                 int want = (7 * position + 13 * move + 5) % 1000;
-                CHECKS.due("after(" + position + ", " + move + ")", academy.after(position, move), want);
+                CHECKS.due("after(" + position + ", " + move + ")", other.after(position, move), want);
             }
         }
     }
@@ -44,7 +45,7 @@ public final class PositionsTest {
             CHECKS.due("worth(" + row[0] + ")", academy.worth(row[0]), row[1]);
         }
         for (int position = 0; position < 1000; position++) {
-            CHECKS.due("worth(" + position + ")", academy.worth(position), position * 37 % 101 - 50);
+            CHECKS.due("worth(" + position + ")", new ClubAcademy().worth(position), position * 37 % 101 - 50);
         }
     }
 
@@ -55,7 +56,7 @@ public final class PositionsTest {
             CHECKS.due("best(" + row[0] + ")", academy.best(row[0]), row[1]);
         }
         for (int position = 0; position < 1000; position++) {
-            CHECKS.due("best(" + position + ")", academy.best(position), bestByWorths(position));
+            CHECKS.due("best(" + position + ")", new ClubAcademy().best(position), bestByWorths(position));
         }
     }
 
