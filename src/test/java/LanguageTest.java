@@ -14,14 +14,18 @@ public final class LanguageTest {
     private static final int MOST_LINES_OF_A_METHOD = 60;
     private static final int MOST_CLASSES = 12;
 
-    /** Rules 2, 3, 4, 6, 8, 9, 10 and 13, as far as a word or a sign shows that one is broken. */
+    /** Rules 2, 4, 6, 10 and 13, as far as a word or a sign shows that one is broken. */
     private static final String[] FORBIDDEN = {
-        "\\bimport\\b", "\\bpackage\\b", "->", "::", "@", "\\btry\\b", "\\bcatch\\b", "\\bfinally\\b", "\\bsynchronized\\b",
-        "\\bassert\\b", "\\bvar\\b", "\\bnative\\b", "\\bvolatile\\b", "\\btransient\\b", "\\bprotected\\b", "\\bwhile\\b",
-        "\\bstatic\\s*\\{", "\\bequals\\b", "\\bhashCode\\b", "\\btoString\\b", "\"\\s*\\+", "\\+\\s*\"", "\\w+Exact\\b", "\\bdouble\\b"};
+        "\\bimport (?!java\\.util\\.)", "\\bpackage\\b", "->", "::", "@", "\\bfinally\\b", "\\bsynchronized\\b", "\\bassert\\b",
+        "\\bvar\\b", "\\bnative\\b", "\\bvolatile\\b", "\\btransient\\b", "\\bprotected\\b", "\\bhashCode\\b",
+        "\\bstatic\\s*\\{", "\\bprintStackTrace\\b", "\"\\s*\\+", "\\+\\s*\"", "\\w+Exact\\b"};
 
-    private static final Set<String> CAPITALS = Set.of("ClubAcademy", "Player", "Game", "Puzzle", "Line", "Book", "Math",
-        "IllegalArgumentException", "IllegalStateException", "IndexOutOfBoundsException");
+    /** The file's own classes; a new one is to be put in here. */
+    private static final Set<String> OWN = Set.of("ClubAcademy", "Player", "Game", "Puzzle", "Line", "Book");
+    private static final Set<String> LIBRARY = Set.of("String", "StringBuilder", "ArrayList", "List", "Integer", "Long", "Math",
+        "Iterator", "Iterable", "Comparable", "System", "Arrays", "IllegalStateException", "IllegalArgumentException",
+        "IndexOutOfBoundsException", "ArithmeticException", "UnsupportedOperationException", "NoSuchElementException",
+        "RuntimeException");
 
     public static void main(String[] args) throws IOException {
         String code = withoutComments(Files.readString(SOURCE));
@@ -64,15 +68,13 @@ public final class LanguageTest {
     private static void namesOfTypes(String code) {
         Matcher name = Pattern.compile("\\b[A-Z]\\w*[a-z]\\w*\\b").matcher(code);
         while (name.find()) {
-            CHECKS.due(name.group() + " is known", CAPITALS.contains(name.group()), true);
+            CHECKS.due(name.group() + " is known", OWN.contains(name.group()) || LIBRARY.contains(name.group()), true);
         }
     }
 
-    /** Rule 5: fields that are static are final constants. */
+    /** Rule 5: fields that are static are final. */
     private static void staticFields(String code) {
-        int all = count(code, "(?m)^ *private static [^(\n]*[=;]");
-        int constants = count(code, "(?m)^ *private static final int [A-Z_]+ = \\d+;");
-        CHECKS.due("static fields that are no constants", all - constants, 0);
+        CHECKS.due("static fields that are not final", count(code, "(?m)\\bstatic (?!final )[^(\n]*[=;]"), 0);
     }
 
     /** Rule 11, and that braces are closed. */
@@ -98,7 +100,7 @@ public final class LanguageTest {
     private static void classes(String code) {
         int classes = count(code, "\\bclass\\b");
         CHECKS.due(classes + " classes", classes <= MOST_CLASSES, true);
-        CHECKS.due("classes inside that are static and private", count(code, "private static final class "), classes - 1);
+        CHECKS.due("classes inside that are static and private", count(code, "private static (final |abstract )?class "), classes - 1);
         CHECKS.due("throw in a constructor", count(code, "(?m)^ {4,8}(public )?[A-Z]\\w*\\([^)]*\\) \\{[^}]*throw"), 0);
     }
 }
